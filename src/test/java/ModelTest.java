@@ -8,6 +8,9 @@ import java.util.TreeMap;
 /** Runs of drawn calls, whose answers must be those of the Model. The argument: how many runs. */
 public final class ModelTest {
     private static final int CALLS = 512;
+    // Day 0 is worth 1 for each post squared, so that a road with one wagon then has a great year.
+    private static final int SLOW_START = 6;
+    private static final int STYLES = 7;
     private static final String[] NAMES = {"feed", "end", "road", "count", "counts", "works", "seen", "kind",
         "whole", "posts", "worth", "sample", "fit", "year", "trial", "flow", "missing", "agreed", "told"};
     private static final int[] EDGES = {Integer.MIN_VALUE, Integer.MIN_VALUE + 1, -2, -1, 0, 1, 2, 3, 4, 7, 8,
@@ -32,7 +35,7 @@ public final class ModelTest {
             run.play();
             if (run.wrong) {
                 wrongRuns++;
-                System.out.println("run " + seed + ":");
+                System.out.println("run " + seed + " (the last row is wrong):");
                 run.calls.forEach(call -> System.out.println("  " + call));
             }
         }
@@ -47,14 +50,19 @@ public final class ModelTest {
     private void play() {
         int roads = random.nextInt(5) == 0 ? 1 + random.nextInt(5) : 5 + random.nextInt(12);
         int most = random.nextInt(3) == 0 ? 50 : 1 + random.nextInt(50);
-        int style = random.nextInt(7);
+        int style = random.nextInt(STYLES + 1);
         int posts = random.nextInt(4) == 0 ? random.nextInt(8) : 2 + random.nextInt(3);
         int groups = 1 + random.nextInt(4);
+        // Few outer crossings make parts of the map that nothing leads out of.
+        int crossings = random.nextInt(3) == 0 ? 8 : 3 + random.nextInt(4);
         for (int r = 0; r < roads; r++) {
-            drawRoad(r, r < posts ? random.nextInt(groups) : random.nextInt(5) - 1);
+            drawRoad(r, crossings, r < posts ? random.nextInt(groups) : random.nextInt(5) - 1);
         }
         for (int r = 0; r < Math.min(posts, roads); r++) {
             tellRow(r, 0, yearRow(style, most));
+        }
+        for (int r = posts; r < roads && style == SLOW_START; r++) {
+            tellRow(r, 0, new int[] {random.nextInt(4) * 2 / 3});
         }
         int limit = 250 + random.nextInt(CALLS - 250);
         while (calls.size() < limit - 10 && !wrong) {
@@ -85,9 +93,7 @@ public final class ModelTest {
         }
     }
 
-    private void drawRoad(int r, int group) {
-        // Few outer crossings make parts of the map that nothing leads out of.
-        int crossings = random.nextInt(3) == 0 ? 8 : 3 + random.nextInt(4);
+    private void drawRoad(int r, int crossings, int group) {
         int from = random.nextInt(crossings);
         call("road", r, from, (from + 1 + random.nextInt(crossings - 1)) % crossings, group);
     }
@@ -96,7 +102,7 @@ public final class ModelTest {
         int[] row = new int[84];
         int offWeekday = random.nextInt(9);
         int offMonth = random.nextInt(14);
-        int drawn = style < 6 ? style : random.nextInt(6);
+        int drawn = style < STYLES ? style : random.nextInt(STYLES);
         for (int d = 0; d < 84; d++) {
             switch (drawn) {
                 case 0: row[d] = most; break;
@@ -104,10 +110,11 @@ public final class ModelTest {
                 case 2: row[d] = d % 7 == offWeekday || d / 7 == offMonth ? 0 : most; break;
                 case 3: row[d] = (d % 7 + 1) * (d / 7 + 1) % (most + 1); break;
                 case 4: row[d] = random.nextInt(20) == 0 ? most : 0; break;
-                default: row[d] = d % 7 == offWeekday % 7 ? 1 : 0; break;
+                case 5: row[d] = d % 7 == offWeekday % 7 ? 1 : 0; break;
+                default: row[d] = d == 0 ? 1 : d < 7 || d % 7 == 0 ? 0 : random.nextInt(10); break;
             }
         }
-        if (random.nextInt(12) == 0) {
+        if (style != SLOW_START && random.nextInt(12) == 0) {
             java.util.Arrays.fill(row, 0);
         }
         return row;

@@ -24,6 +24,8 @@ public final class PromiseTest {
         sample();
         fit();
         fitExactly();
+        fitWithoutRest();
+        fitBehindATrial();
         fitOfZeros();
         year();
         yearOfManyDays();
@@ -35,6 +37,7 @@ public final class PromiseTest {
         agreed();
         agreedBelowZero();
         agreedOfClosedParts();
+        agreedOfAWholeMap();
         agreedWithoutSome();
         told();
         refusedCallsChangeNothing();
@@ -320,11 +323,17 @@ public final class PromiseTest {
         Desk.due("10: no entry", d.office.kind(0, 9, 1, 0), NONE);
         d.office.works(0, 2, 3, true);
         Desk.due("10: apart", d.office.kind(0, 2, 1, 0), NONE);
-        Desk.due("10: no road", d.office.kind(1, 0, 1, 0), NONE);
-        Desk.due("10: no day", d.office.kind(0, 84, 1, 0), NONE);
+        for (int r : new int[] {-1, 1, 16, LEAST, MOST}) {
+            Desk.due("10: road " + r, d.office.kind(r, 0, 1, 0), NONE);
+        }
+        for (int day : new int[] {-1, 84, LEAST, MOST}) {
+            Desk.due("10: day " + day, d.office.kind(0, day, 1, 0), NONE);
+        }
         Desk.due("10: no time", d.office.kind(0, 0, -1, 0), NONE);
         d.count(0, 5, 255, 0, 0, 255, 0, 0, 255);
         Desk.due("10: a count beyond 50 has none", d.office.kind(0, 5, 1, 0), NONE);
+        d.count(0, 5, 0, 100, 0, 0, 155, 0, 255);
+        Desk.due("10: a count of 0 has its kinds", d.office.kind(0, 5, 1, 1), 255);
     }
 
     // Promise 11
@@ -500,6 +509,31 @@ public final class PromiseTest {
         Desk.due("15: behind the even one", d.office.fit(7, 1, 0), 0);
     }
 
+    /** The quotients that are compared have like whole parts, and one of them no rest. */
+    private static void fitWithoutRest() {
+        for (int even = 0; even < 2; even++) {
+            Desk d = new Desk();
+            d.post(0, even, Desk.days(84, 10));
+            d.post(1, 1 - even, weekly(10, 11, 10, 10, 10, 10, 10));
+            d.road(2, 0, 1, 1, 3);
+            // 4 * 4 / 2 of the even group, 43 * 43 / 221 of the other one
+            Desk.due("15: the greater by a rest", d.office.fit(2, 0, 0), 1 - even);
+            Desk.due("15: the one without", d.office.fit(2, 1, 0), even);
+        }
+    }
+
+    /** What a trial leaves behind is no group. */
+    private static void fitBehindATrial() {
+        Desk d = new Desk();
+        d.post(0, 0, weekly(1, 2, 3, 4, 5, 6, 7));
+        d.post(1, 0, weekly(7, 6, 5, 4, 3, 2, 1));
+        d.road(2, 0, 1, 7, 6, 5);
+        d.office.trial(0, 0, 0);
+        Desk.due("15: the group behind a trial", d.office.fit(2, 0, 0), 0);
+        Desk.due("15: it alone", d.office.fit(2, 1, 0), NONE);
+        dueYear(d, 2, 0, 6 * 84, 1);
+    }
+
     private static void fitOfZeros() {
         Desk d = new Desk();
         d.post(0, 0, weekly(0, 1, 1, 1, 1, 1, 1));
@@ -522,7 +556,8 @@ public final class PromiseTest {
     }
 
     private static void dueYear(Desk d, int r, int t, long upper, long lower) {
-        dueFraction("16: year " + r + ", " + t, () -> d.office.year(r, t, 0), () -> d.office.year(r, t, 1), upper, lower);
+        dueFraction("16: year " + r + ", " + t,
+                () -> d.office.year(r, t, 0), () -> d.office.year(r, t, 1), upper, lower);
     }
 
     // Promise 16
@@ -579,7 +614,8 @@ public final class PromiseTest {
     }
 
     private static void dueTrial(Desk d, int r, int t, long upper, long lower) {
-        dueFraction("17: trial " + r + ", " + t, () -> d.office.trial(r, t, 0), () -> d.office.trial(r, t, 1), upper, lower);
+        dueFraction("17: trial " + r + ", " + t,
+                () -> d.office.trial(r, t, 0), () -> d.office.trial(r, t, 1), upper, lower);
     }
 
     // Promise 17
@@ -663,6 +699,11 @@ public final class PromiseTest {
         d.counts(5, 0, 2);
         Desk.due("18: now", d.office.flow(5, 1), 168);
         Desk.due("18: then", d.office.flow(5, 0), 0);
+        Desk.due("18: now again", d.office.flow(5, 1), 168);
+        d.count(5, 0, 1, 1, 1, 1, 1, 0, 1);
+        Desk.due("18: after a count", d.office.flow(5, 1), 336);
+        d.office.works(5, 0, 1, true);
+        Desk.due("18: after works", d.office.flow(5, 1), NONE);
     }
 
     /** A post with one wagon in month 0, on day 0, so many on that weekday, and so many in all. */
@@ -790,6 +831,28 @@ public final class PromiseTest {
         dueAgreed(d, 1, 168, 1);
         d.road(5, 2, 7, 1);
         dueAgreed(d, 5, 0, 1);
+    }
+
+    /** Road 0 and the first and last of the outer crossings, in a map of all four inner ones. */
+    private static void agreedOfAWholeMap() {
+        Desk d = new Desk();
+        d.road(0, 3, 4, Desk.days(14, 1));
+        d.post(1, 0, Desk.days(84, 1));
+        d.road(2, 7, 0, Desk.days(14, 6));
+        d.road(3, 0, 1, Desk.days(14, 1));
+        d.road(4, 1, 2, Desk.days(14, 1));
+        d.road(5, 2, 3, Desk.days(14, 1));
+        // five like doubts in a row: all become the mean of 1, 6, 1, 1 and 1, which is 2
+        for (int r : new int[] {0, 2, 3, 4, 5}) {
+            dueAgreed(d, r, 168, 1);
+        }
+        d.road(6, 1, 4, Desk.days(14, 0));
+        // Let x go on from crossing 1 by way of 2, y by road 6: x = 84 + l / 3, y = l and
+        // x + y = 294 - l / 2 (two roads in a row, of 504 and of 84); l = 1260 / 11
+        dueAgreed(d, 6, 1260, 11);
+        dueAgreed(d, 0, 1344, 11);
+        dueAgreed(d, 2, 2604, 11);
+        dueAgreed(d, 1, 84, 1);
     }
 
     private static void agreedWithoutSome() {
