@@ -832,9 +832,7 @@ public final class RoadOffice {
         // zeros, whose crossing agrees by itself when the others of its part of the map do.
         void settle() {
             for (int c = 0; c < INNER; c++) {
-                if (table[c][c] > 0) {
-                    turnOver(c);
-                }
+                turnOver(c);
             }
             for (int c = 0; c < INNER; c++) {
                 pulls[c] = table[c][c] > 0 ? pullAt(c) : 0;
@@ -848,6 +846,9 @@ public final class RoadOffice {
         // Every number stays a determinant of the table's own (Bareiss), so each division is even.
         private void turnOver(int c) {
             long pivot = table[c][c];
+            if (pivot <= 0 || divisor <= 0) {
+                return;
+            }
             for (int row = 0; row < INNER; row++) {
                 if (row != c) {
                     long factor = table[row][c];

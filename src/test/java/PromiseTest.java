@@ -451,21 +451,12 @@ public final class PromiseTest {
         Desk.due("14: a post that is not whole", d.office.sample(0, 1), 14);
     }
 
-    /** A year whose weekdays alone differ. */
-    private static int[] weekly(int... week) {
-        int[] year = new int[84];
-        for (int day = 0; day < 84; day++) {
-            year[day] = week[day % 7];
-        }
-        return year;
-    }
-
     // Promise 15
     private static void fit() {
         Desk d = new Desk();
-        d.post(0, 3, weekly(1, 2, 3, 4, 5, 6, 7));
-        d.post(1, 1, weekly(7, 6, 5, 4, 3, 2, 1));
-        d.post(2, 2, weekly(4, 4, 4, 4, 4, 4, 4));
+        d.post(0, 3, Desk.weekly(1, 2, 3, 4, 5, 6, 7));
+        d.post(1, 1, Desk.weekly(7, 6, 5, 4, 3, 2, 1));
+        d.post(2, 2, Desk.weekly(4, 4, 4, 4, 4, 4, 4));
         d.road(3, 0, 1, 10, 20, 30, 40);
         d.road(4, 0, 1, 40, 30, 20, 10);
         d.road(5, 0, 1);
@@ -486,7 +477,7 @@ public final class PromiseTest {
             Desk.due("15: road " + r, d.office.fit(r, 0, 0), NONE);
         }
         Desk.due("15: no time", d.office.fit(3, 0, -1), NONE);
-        d.post(6, 0, weekly(1, 2, 3, 4, 5, 6, 7));
+        d.post(6, 0, Desk.weekly(1, 2, 3, 4, 5, 6, 7));
         Desk.due("15: of like ones the lesser ahead", d.office.fit(3, 0, 0), 0);
         Desk.due("15: then the other", d.office.fit(3, 1, 0), 3);
         Desk.due("15: all four", d.office.fit(3, 3, 0), 1);
@@ -514,7 +505,7 @@ public final class PromiseTest {
         for (int even = 0; even < 2; even++) {
             Desk d = new Desk();
             d.post(0, even, Desk.days(84, 10));
-            d.post(1, 1 - even, weekly(10, 11, 10, 10, 10, 10, 10));
+            d.post(1, 1 - even, Desk.weekly(10, 11, 10, 10, 10, 10, 10));
             d.road(2, 0, 1, 1, 3);
             // 4 * 4 / 2 of the even group, 43 * 43 / 221 of the other one
             Desk.due("15: the greater by a rest", d.office.fit(2, 0, 0), 1 - even);
@@ -525,18 +516,18 @@ public final class PromiseTest {
     /** What a trial leaves behind is no group. */
     private static void fitBehindATrial() {
         Desk d = new Desk();
-        d.post(0, 0, weekly(1, 2, 3, 4, 5, 6, 7));
-        d.post(1, 0, weekly(7, 6, 5, 4, 3, 2, 1));
+        d.post(0, 0, Desk.weekly(1, 2, 3, 4, 5, 6, 7));
+        d.post(1, 0, Desk.weekly(7, 6, 5, 4, 3, 2, 1));
         d.road(2, 0, 1, 7, 6, 5);
         d.office.trial(0, 0, 0);
         Desk.due("15: the group behind a trial", d.office.fit(2, 0, 0), 0);
         Desk.due("15: it alone", d.office.fit(2, 1, 0), NONE);
-        dueYear(d, 2, 0, 6 * 84, 1);
+        d.dueYear(2, 0, 6 * 84, 1);
     }
 
     private static void fitOfZeros() {
         Desk d = new Desk();
-        d.post(0, 0, weekly(0, 1, 1, 1, 1, 1, 1));
+        d.post(0, 0, Desk.weekly(0, 1, 1, 1, 1, 1, 1));
         d.post(1, 1, Desk.days(84, 1));
         d.road(2, 0, 1, 5);
         Desk.due("15: where all are worth 0 it does not fit", d.office.fit(2, 0, 0), 1);
@@ -550,16 +541,6 @@ public final class PromiseTest {
         Desk.due("18: no group that fits", d.office.flow(2, 0), NONE);
     }
 
-    private static void dueFraction(String what, Desk.Call upper, Desk.Call lower, long top, long bottom) {
-        Desk.due(what + ", upper", upper.ask(), top);
-        Desk.due(what + ", lower", lower.ask(), bottom);
-    }
-
-    private static void dueYear(Desk d, int r, int t, long upper, long lower) {
-        dueFraction("16: year " + r + ", " + t,
-                () -> d.office.year(r, t, 0), () -> d.office.year(r, t, 1), upper, lower);
-    }
-
     // Promise 16
     private static void year() {
         Desk d = new Desk();
@@ -569,11 +550,11 @@ public final class PromiseTest {
         d.road(3, 0, 1, 1, 2, 0);
         d.road(4, 0, 1, 0, 0, 0, 0, 0, 0, 0, 0, 0, 0, 1);
         d.road(5, 0, 1);
-        dueYear(d, 0, 0, 84, 1);
-        dueYear(d, 1, 0, 0, 1);
-        dueYear(d, 2, 0, 3 * 84, 1);
-        dueYear(d, 3, 0, 84, 1);
-        dueYear(d, 4, 0, 84, 11);
+        d.dueYear(0, 0, 84, 1);
+        d.dueYear(1, 0, 0, 1);
+        d.dueYear(2, 0, 3 * 84, 1);
+        d.dueYear(3, 0, 84, 1);
+        d.dueYear(4, 0, 84, 11);
         Desk.refused("16: no sample", () -> d.office.year(5, 0, 0));
         Desk.refused("16: no road", () -> d.office.year(6, 0, 0));
         for (int r : new int[] {-1, 16, LEAST, MOST}) {
@@ -586,11 +567,11 @@ public final class PromiseTest {
         d.office.later();
         d.counts(3, 3, 1);
         d.office.works(4, 0, 10, true);
-        dueYear(d, 3, 1, 84, 1);
-        dueYear(d, 4, 1, 84, 1);
+        d.dueYear(3, 1, 84, 1);
+        d.dueYear(4, 1, 84, 1);
         d.counts(3, 2, 1);
-        dueYear(d, 3, 1, 105, 1);
-        dueYear(d, 3, 0, 84, 1);
+        d.dueYear(3, 1, 105, 1);
+        d.dueYear(3, 0, 84, 1);
     }
 
     /** The greatest numbers that come up on the way, and a sample that ends at 14 days. */
@@ -602,43 +583,38 @@ public final class PromiseTest {
         int[] row = Desk.days(84, 50);
         row[14] = 0;
         d.road(4, 0, 1, row);
-        dueYear(d, 4, 0, 4200, 1);
+        d.dueYear(4, 0, 4200, 1);
         d.office.works(4, 0, 1, true);
-        dueYear(d, 4, 0, 3900, 1);
-        d.post(5, 0, weekly(1, 2, 3, 4, 5, 6, 7));
+        d.dueYear(4, 0, 3900, 1);
+        d.post(5, 0, Desk.weekly(1, 2, 3, 4, 5, 6, 7));
         d.road(6, 0, 1, 1, 2, 4);
         // worths 12, 24 and 36 times 28; best: 0: a = (12 + 48 + 144) / (144 + 576 + 1296) / 28
         // = 204 / 2016 / 28; year: a times (12 * 28) * (12 * 28) = 204 * 144 * 28 / 2016 = 408
         Desk.due("16: best", d.office.fit(6, 0, 0), 0);
-        dueYear(d, 6, 0, 408, 1);
-    }
-
-    private static void dueTrial(Desk d, int r, int t, long upper, long lower) {
-        dueFraction("17: trial " + r + ", " + t,
-                () -> d.office.trial(r, t, 0), () -> d.office.trial(r, t, 1), upper, lower);
+        d.dueYear(6, 0, 408, 1);
     }
 
     // Promise 17
     private static void trial() {
         Desk d = new Desk();
-        d.post(0, 0, weekly(1, 2, 3, 4, 5, 6, 7));
+        d.post(0, 0, Desk.weekly(1, 2, 3, 4, 5, 6, 7));
         Desk.refused("17: no other in the group", () -> d.office.trial(0, 0, 0));
-        d.post(1, 1, weekly(1, 2, 3, 4, 5, 6, 7));
+        d.post(1, 1, Desk.weekly(1, 2, 3, 4, 5, 6, 7));
         Desk.refused("17: others do not count", () -> d.office.trial(0, 0, 0));
         d.post(2, 0, Desk.days(84, 0));
         Desk.refused("17: all others are 0", () -> d.office.trial(0, 0, 0));
-        dueTrial(d, 2, 0, 0, 1);
+        d.dueTrial(2, 0, 0, 1);
         d.post(3, 0, Desk.days(84, 1));
-        dueTrial(d, 0, 0, 28 * 12, 1);
+        d.dueTrial(0, 0, 28 * 12, 1);
         // worths w times 336, w from 1 to 7: the year is (1 + .. + 7) / (1 + .. + 49) * 336
-        dueTrial(d, 3, 0, 336, 5);
+        d.dueTrial(3, 0, 336, 5);
         int[] late = Desk.days(84, 1);
         for (int day = 0; day < 7; day++) {
             late[day] = 0;
         }
         d.post(4, 1, late);
         Desk.refused("17: it does not fit", () -> d.office.trial(1, 0, 0));
-        dueTrial(d, 4, 0, 0, 1);
+        d.dueTrial(4, 0, 0, 1);
         d.road(5, 0, 1, Desk.days(84, 1));
         Desk.refused("17: no post", () -> d.office.trial(5, 0, 0));
         for (int r : new int[] {-1, 6, 16, LEAST, MOST}) {
@@ -657,8 +633,8 @@ public final class PromiseTest {
         for (int r = 0; r < 4; r++) {
             d.post(r, 0, Desk.days(84, 2));
         }
-        d.post(4, 0, weekly(1, 0, 0, 0, 0, 0, 0));
-        d.post(5, 0, weekly(0, 50, 0, 0, 0, 0, 0));
+        d.post(4, 0, Desk.weekly(1, 0, 0, 0, 0, 0, 0));
+        d.post(5, 0, Desk.weekly(0, 50, 0, 0, 0, 0, 0));
         // Of the five others the first four: for road 0, these are 1, 2, 3 and 4.
         long[] w = {7, 6, 6, 6, 6, 6, 6};
         long square = 0;
@@ -669,11 +645,11 @@ public final class PromiseTest {
         }
         long top = product * 43 * 12;
         long shared = java.math.BigInteger.valueOf(top).gcd(java.math.BigInteger.valueOf(square)).longValue();
-        dueTrial(d, 0, 0, top / shared, square / shared);
-        dueTrial(d, 4, 0, 12, 1);
-        dueTrial(d, 5, 0, 600, 1);
+        d.dueTrial(0, 0, top / shared, square / shared);
+        d.dueTrial(4, 0, 12, 1);
+        d.dueTrial(5, 0, 600, 1);
         d.post(6, 0, Desk.days(84, 50));
-        dueTrial(d, 0, 0, top / shared, square / shared);
+        d.dueTrial(0, 0, top / shared, square / shared);
     }
 
     // Promise 18
@@ -706,35 +682,18 @@ public final class PromiseTest {
         Desk.due("18: after works", d.office.flow(5, 1), NONE);
     }
 
-    /** A post with one wagon in month 0, on day 0, so many on that weekday, and so many in all. */
-    private static Desk slowStart(int weekday, int total) {
-        int[] year = new int[84];
-        year[0] = 1;
-        int ofWeekday = weekday - 1;
-        int others = total - weekday;
-        for (int day = 7; day < 84; day++) {
-            int each = Math.min(50, day % 7 == 0 ? ofWeekday : others);
-            year[day] = each;
-            ofWeekday -= day % 7 == 0 ? each : 0;
-            others -= day % 7 == 0 ? 0 : each;
-        }
-        Desk d = new Desk();
-        d.post(0, 0, year);
-        return d;
-    }
-
     private static void flowAtItsMost() {
-        Desk d = slowStart(10, 1000);
+        Desk d = Desk.slowStart(10, 1000);
         d.road(1, 4, 0, 1);
-        dueYear(d, 1, 0, 100000, 1);
+        d.dueYear(1, 0, 100000, 1);
         Desk.due("18: 100000", d.office.flow(1, 0), 100000);
-        d = slowStart(251, 1002);
+        d = Desk.slowStart(251, 1002);
         d.road(1, 4, 0, 25);
-        dueYear(d, 1, 0, 1002L * 1002 * 25, 251);
+        d.dueYear(1, 0, 1002L * 1002 * 25, 251);
         Desk.due("18: rounded to 100000", d.office.flow(1, 0), 100000);
-        d = slowStart(157, 1253);
+        d = Desk.slowStart(157, 1253);
         d.road(1, 4, 0, 10);
-        dueYear(d, 1, 0, 1253L * 1253 * 10, 157);
+        d.dueYear(1, 0, 1253L * 1253 * 10, 157);
         Desk.due("18: rounded beyond 100000", d.office.flow(1, 0), NONE);
         Desk.due("19: as if it were not there", d.office.missing(0, 0), 0);
         RoadOffice x = d.office;
@@ -763,21 +722,17 @@ public final class PromiseTest {
         Desk.due("19: then", d.office.missing(3, 0), 420);
     }
 
-    private static void dueAgreed(Desk d, int r, long upper, long lower) {
-        dueFraction("20: agreed " + r, () -> d.office.agreed(r, 0, 0), () -> d.office.agreed(r, 0, 1), upper, lower);
-    }
-
     // Promise 20
     private static void agreed() {
         Desk d = new Desk();
         d.post(0, 0, Desk.days(84, 1));
         d.road(1, 4, 0, 1);
-        dueAgreed(d, 1, 0, 1);
+        d.dueAgreed(1, 0, 1);
         d.road(2, 0, 5, Desk.days(14, 0));
         // doubts 14 and 1: of 84 too many, each 15th part
-        dueAgreed(d, 1, 28, 5);
-        dueAgreed(d, 2, 28, 5);
-        dueAgreed(d, 0, 84, 1);
+        d.dueAgreed(1, 28, 5);
+        d.dueAgreed(2, 28, 5);
+        d.dueAgreed(0, 84, 1);
         Desk.refused("20: no road", () -> d.office.agreed(3, 0, 0));
         for (int r : new int[] {-1, 16, LEAST, MOST}) {
             Desk.refused("20: road " + r, () -> d.office.agreed(r, 0, 0));
@@ -803,9 +758,9 @@ public final class PromiseTest {
         d.road(1, 4, 0, 0);
         d.road(2, 6, 0, Desk.days(14, 1));
         d.road(3, 0, 5, Desk.days(14, 0));
-        dueAgreed(d, 1, -147, 2);
-        dueAgreed(d, 2, 315, 4);
-        dueAgreed(d, 3, 21, 4);
+        d.dueAgreed(1, -147, 2);
+        d.dueAgreed(2, 315, 4);
+        d.dueAgreed(3, 21, 4);
     }
 
     /** Parts of the map that nothing leads out of, of two and of three inner crossings. */
@@ -813,24 +768,24 @@ public final class PromiseTest {
         Desk d = new Desk();
         d.post(0, 0, Desk.days(84, 1));
         d.road(1, 2, 3, 1);
-        dueAgreed(d, 1, 0, 1);
+        d.dueAgreed(1, 0, 1);
         d.road(2, 3, 2, Desk.days(14, 2));
         // doubts 14 and 1, 84 and 168: both are what is nearer to the second
-        dueAgreed(d, 1, 812, 5);
-        dueAgreed(d, 2, 812, 5);
+        d.dueAgreed(1, 812, 5);
+        d.dueAgreed(2, 812, 5);
         d = new Desk();
         d.post(0, 0, Desk.days(84, 1));
         d.road(1, 0, 1, 1);
         d.road(2, 1, 3, 2);
         d.road(3, 3, 0, 3);
         for (int r = 1; r < 4; r++) {
-            dueAgreed(d, r, 168, 1);
+            d.dueAgreed(r, 168, 1);
         }
         d.road(4, 3, 6, Desk.days(14, 1));
-        dueAgreed(d, 4, 0, 1);
-        dueAgreed(d, 1, 168, 1);
+        d.dueAgreed(4, 0, 1);
+        d.dueAgreed(1, 168, 1);
         d.road(5, 2, 7, 1);
-        dueAgreed(d, 5, 0, 1);
+        d.dueAgreed(5, 0, 1);
     }
 
     /** Road 0 and the first and last of the outer crossings, in a map of all four inner ones. */
@@ -844,15 +799,15 @@ public final class PromiseTest {
         d.road(5, 2, 3, Desk.days(14, 1));
         // five like doubts in a row: all become the mean of 1, 6, 1, 1 and 1, which is 2
         for (int r : new int[] {0, 2, 3, 4, 5}) {
-            dueAgreed(d, r, 168, 1);
+            d.dueAgreed(r, 168, 1);
         }
         d.road(6, 1, 4, Desk.days(14, 0));
         // Let x go on from crossing 1 by way of 2, y by road 6: x = 84 + l / 3, y = l and
         // x + y = 294 - l / 2 (two roads in a row, of 504 and of 84); l = 1260 / 11
-        dueAgreed(d, 6, 1260, 11);
-        dueAgreed(d, 0, 1344, 11);
-        dueAgreed(d, 2, 2604, 11);
-        dueAgreed(d, 1, 84, 1);
+        d.dueAgreed(6, 1260, 11);
+        d.dueAgreed(0, 1344, 11);
+        d.dueAgreed(2, 2604, 11);
+        d.dueAgreed(1, 84, 1);
     }
 
     private static void agreedWithoutSome() {
@@ -861,13 +816,13 @@ public final class PromiseTest {
         d.road(1, 4, 1, 1);
         d.road(2, 1, 2);
         d.road(3, 2, 5, 1);
-        dueAgreed(d, 1, 0, 1);
-        dueAgreed(d, 3, 0, 1);
+        d.dueAgreed(1, 0, 1);
+        d.dueAgreed(3, 0, 1);
         d.counts(2, 0, 1);
-        dueAgreed(d, 1, 84, 1);
-        dueAgreed(d, 2, 84, 1);
+        d.dueAgreed(1, 84, 1);
+        d.dueAgreed(2, 84, 1);
         d.office.works(2, 0, 1, true);
-        dueAgreed(d, 1, 0, 1);
+        d.dueAgreed(1, 0, 1);
         Desk.refused("20: without a flow", () -> d.office.agreed(2, 0, 0));
     }
 
@@ -902,6 +857,6 @@ public final class PromiseTest {
         for (int what = 0; what < 4; what++) {
             Desk.due("told behind an exception", d.office.told(what), due[what]);
         }
-        dueYear(d, 0, 0, 84, 1);
+        d.dueYear(0, 0, 84, 1);
     }
 }
