@@ -441,6 +441,9 @@ final class AnswerPromises {
         Desk.due("a post with a gap", d.office.fit(1, 0, 1), 0);
         Desk.due("no sample yet", d.office.fit(3, 0, 0), NONE);
         Desk.due("a sample", d.office.fit(3, 0, 1), 0);
+        d.road(5, 0, 1, 50, 50, 50);
+        d.office.trial(0, 0, 0);
+        Desk.due("what a trial leaves behind is no group", d.office.fit(5, 1, 1), NONE);
     }
 
     private static void year() {

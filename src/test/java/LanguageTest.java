@@ -41,6 +41,10 @@ public final class LanguageTest {
                 Desk.due("the method at line " + (start + 1) + " is short", i - start <= 60, true);
                 start = -1;
             }
+            // All calls of a run live in one room: rows are made once, and used again.
+            boolean makes = line.replace("throw new ", "").matches(".*\\bnew \\w.*");
+            boolean inConstructor = start >= 0 && lines.get(start).matches(" +(public )?[A-Z]\\w*\\(.*");
+            Desk.due("line " + (i + 1) + " makes an object behind a constructor", makes && !inConstructor, false);
         }
     }
 }

@@ -24,7 +24,6 @@ public final class PromiseTest {
         sample();
         fit();
         fitExactly();
-        fitWithoutRest();
         fitBehindATrial();
         fitOfZeros();
         year();
@@ -35,7 +34,6 @@ public final class PromiseTest {
         flowAtItsMost();
         missing();
         agreed();
-        agreedBelowZero();
         agreedOfClosedParts();
         agreedOfAWholeMap();
         agreedWithoutSome();
@@ -500,19 +498,6 @@ public final class PromiseTest {
         Desk.due("15: behind the even one", d.office.fit(7, 1, 0), 0);
     }
 
-    /** The quotients that are compared have like whole parts, and one of them no rest. */
-    private static void fitWithoutRest() {
-        for (int even = 0; even < 2; even++) {
-            Desk d = new Desk();
-            d.post(0, even, Desk.days(84, 10));
-            d.post(1, 1 - even, Desk.weekly(10, 11, 10, 10, 10, 10, 10));
-            d.road(2, 0, 1, 1, 3);
-            // 4 * 4 / 2 of the even group, 43 * 43 / 221 of the other one
-            Desk.due("15: the greater by a rest", d.office.fit(2, 0, 0), 1 - even);
-            Desk.due("15: the one without", d.office.fit(2, 1, 0), even);
-        }
-    }
-
     /** What a trial leaves behind is no group. */
     private static void fitBehindATrial() {
         Desk d = new Desk();
@@ -750,17 +735,6 @@ public final class PromiseTest {
         d.counts(3, 0, Desk.days(84, 1));
         Desk.due("20: with a post, upper", d.office.agreed(3, 1, 0), 315);
         Desk.due("20: with a post, lower", d.office.agreed(3, 1, 1), 4);
-    }
-
-    private static void agreedBelowZero() {
-        Desk d = new Desk();
-        d.post(0, 0, Desk.days(84, 1));
-        d.road(1, 4, 0, 0);
-        d.road(2, 6, 0, Desk.days(14, 1));
-        d.road(3, 0, 5, Desk.days(14, 0));
-        d.dueAgreed(1, -147, 2);
-        d.dueAgreed(2, 315, 4);
-        d.dueAgreed(3, 21, 4);
     }
 
     /** Parts of the map that nothing leads out of, of two and of three inner crossings. */
